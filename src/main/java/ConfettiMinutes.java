@@ -750,7 +750,7 @@ public final class ConfettiMinutes {
     }
 
     private static int clamp(int v, int least, int most) {
-        return Math.max(least, Math.min(most, v));
+        return v < least ? least : v > most ? most : v;
     }
 
     private static int slotOf(int law, int bit) {
@@ -976,11 +976,11 @@ public final class ConfettiMinutes {
             return length > RULE_SIGNS ? RULE_SIGNS : -1;
         }
 
-        int drift(Town town, int slot, int wind, int others) {
+        /** DRIFT of the BIT that was learnt of last. */
+        int drift() {
             if (size == 0) {
-                return wind;
+                return known[0];
             }
-            learn(town, slot, wind, others);
             int top = 0;
             for (int j = 0; j < size && j < RULE_SIGNS; j++) {
                 int c = code[j];
@@ -1002,7 +1002,7 @@ public final class ConfettiMinutes {
         }
 
         /** What the names stand for, in the order of NAMES. */
-        private void learn(Town town, int slot, int wind, int others) {
+        void learn(Town town, int slot, int wind, int others) {
             known[0] = wind;
             known[1] = slot % MOST_BITS;
             known[2] = slot / MOST_BITS;
@@ -1499,7 +1499,8 @@ public final class ConfettiMinutes {
         int landingOf(Town town, Rule rule, int slot, int wind) {
             int street = town.placeOf(slot);
             int others = street >= 0 && street < STREETS ? crowd[street] - 1 : 0;
-            return clamp(street + rule.drift(town, slot, wind, others), 0, STREETS - 1);
+            rule.learn(town, slot, wind, others);
+            return clamp(street + rule.drift(), 0, STREETS - 1);
         }
 
         private void blow(Town town, Rule rule) {

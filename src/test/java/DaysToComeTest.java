@@ -122,6 +122,12 @@ public final class DaysToComeTest {
         CHECK.row("drifts(4)", x, 2, 0, 0, 2, 0, 0, 0, 2, 0);
         CHECK.due("drifts(60)", x.drifts(60), 2);
         CHECK.row("drifts(60)", x, 2, 0, 0, 2, 0, 0, 0, 0, 0);
+        ConfettiMinutes y = Check.town("3", "");
+        CHECK.wed(y, "c0t00");
+        CHECK.due("the fullest is 1", y.drifts(1), 3);
+        CHECK.row("the fullest is 1", y, 1, 0, 3, 0, 0, 0, 0, 0, 0);
+        CHECK.due("the fullest is 7", y.drifts(9), 3);
+        CHECK.row("the fullest is 7", y, 7, 0, 0, 0, 0, 0, 0, 0, 3);
     }
 
     private static void aims() {
@@ -165,6 +171,9 @@ public final class DaysToComeTest {
         CHECK.due("the other one", x.prays(1, 1), 9);
         CHECK.row("the other one", x, 1, 0);
         CHECK.due("WIND stays", x.count(2), 11);
+        CHECK.wed(x, "p05");
+        CHECK.due("the highest wind", x.prays(0, 1), 13);
+        CHECK.row("the highest wind", x, 1, 0);
         CHECK.wed(x, "p07w-1");
         CHECK.due("three DAYS", x.prays(0, 5), 12);
         CHECK.row("three DAYS", x, 3, 0);
@@ -195,6 +204,14 @@ public final class DaysToComeTest {
         y.walks(0, 5);
         CHECK.due("of equal ones the least way", y.seeks(0, 1), 6);
         CHECK.row("of equal ones the least way", y, 1, 1);
+        CHECK.wed(y, "w-0s0c0t02");
+        CHECK.due("STREET 4", y.seeks(0, 1), 4);
+        Check.text(y, "0-9").rule();
+        CHECK.due("STREET 0", y.seeks(0, 1), 0);
+        CHECK.row("STREET 0", y, 1, 5);
+        Check.text(y, "4*i-2").rule();
+        CHECK.wed(y, "s0c0t04");
+        y.seeks(0, 1);
         int[][] none = {{1, 1}, {-1, 1}, {0, -1}, {0, 31}};
         for (int[] a : none) {
             CHECK.due("seeks of others", y.seeks(a[0], a[1]), -1);

@@ -52,6 +52,10 @@ public final class GamesTest {
         CHECK.due("by THE RULE behind it", Check.text(x, "3*(l=0)").other(), 0);
         CHECK.due("ten DAYS", Check.text(x, "0-(n=3)").other(), 3);
         CHECK.row("ten DAYS", x, 3, 0, 1, 0);
+        ConfettiMinutes y = Check.town("4;4;3", "0");
+        CHECK.wed(y, "c0c1c2t00t10t20");
+        CHECK.due("one BIT a DAY", Check.text(y, "0").other(), 10);
+        CHECK.row("one BIT a DAY", y, 10, 0, 3, 0);
     }
 
     /** Terms 2 say that the ROW stays with each answer below 0; promise 49 does not take it back. */

@@ -34,7 +34,8 @@ public final class GuessTest {
         CHECK.due("forget()", x.forget(), 10);
         CHECK.due("forget()", x.forget(), 0);
         CHECK.due("count(8)", x.count(8), 0);
-        CHECK.due("seen", x.seen(0, 1, 3), 1);
+        CHECK.due("seen", x.seen(0, 1, 7), 1);
+        CHECK.due("seen", x.seen(0, 1, 0), 2);
         CHECK.due("it is no deed", x.count(11), 1);
     }
 
@@ -186,6 +187,9 @@ public final class GuessTest {
         ConfettiMinutes y = Check.town("2;2", "0;0");
         CHECK.due("nothing tells them apart", y.asks(), 0);
         CHECK.row("nothing tells them apart", y, 2);
+        ConfettiMinutes five = Check.town("", "6;6;6;6;6");
+        CHECK.due("nothing tells five apart", five.asks(), 0);
+        CHECK.row("nothing tells five apart", five, 5);
         CHECK.wed(y, "w+0c0c1t00n1t10n1g010g101");
         CHECK.due("by a BIT", y.asks(), 20);
         CHECK.row("by a BIT", y, 1);
