@@ -49,35 +49,11 @@ public final class ConfettiMinutes {
     }
 
     public int laws() {
-        int length = text.take();
-        if (length == 0) {
-            return 0;
-        }
-        int fault = text.faultOfLines(length, '1', '4', MOST - now.lawCount);
-        if (fault >= 0) {
-            return -1 - fault;
-        }
-        for (int p = 0; p < length; p += 2) {
-            now.addLaw(text.digitAt(p));
-        }
-        past.forgetAll();
-        return (length + 1) / 2;
+        return readLines('1', '4', true);
     }
 
     public int people() {
-        int length = text.take();
-        if (length == 0) {
-            return 0;
-        }
-        int fault = text.faultOfLines(length, '0', '7', MOST - now.peopleCount);
-        if (fault >= 0) {
-            return -1 - fault;
-        }
-        for (int p = 0; p < length; p += 2) {
-            now.addOne(text.digitAt(p));
-        }
-        past.forgetAll();
-        return (length + 1) / 2;
+        return readLines('0', '7', false);
     }
 
     public int rule() {
@@ -205,11 +181,15 @@ public final class ConfettiMinutes {
         before.become(now);
         int done = 0;
         int refused = 0;
-        for (int p = 0; p < length && refused == 0; p += text.actLength(p)) {
-            if (doAct(p) < 0) {
-                refused = 1;
-            } else {
-                done++;
+        int next = 0;
+        for (int p = 0; p < length && refused == 0; p++) {
+            if (p == next) {
+                next = p + text.actLength(p);
+                if (doAct(p) < 0) {
+                    refused = 1;
+                } else {
+                    done++;
+                }
             }
         }
         if (done > 0) {
@@ -431,18 +411,14 @@ public final class ConfettiMinutes {
     // ---- which wind it was
 
     public int seen(int law, int bit, int street) {
-        if (!now.hasBit(law, bit) || !isWithin(street, 0, STREETS - 1) || sights.isFull()) {
+        if (!now.hasBit(law, bit) || !isWithin(street, 0, STREETS - 1) || sights.ledger.isFull()) {
             return NONE;
         }
-        int slot = slotOf(law, bit);
-        if (!now.lies(slot)) {
-            return -2;
-        }
-        return sights.add(slot, street);
+        return now.lies(slotOf(law, bit)) ? sights.ledger.add(law, bit, street) : -2;
     }
 
     public int forget() {
-        return sights.empty();
+        return sights.ledger.empty();
     }
 
     public int guess() {
@@ -474,14 +450,11 @@ public final class ConfettiMinutes {
     // ---- which one it was
 
     public int heard(int what, int v) {
-        if (!Hearsay.isTalk(what, v) || hearsay.isFull()) {
-            return NONE;
-        }
-        return hearsay.add(what, v);
+        return Hearsay.isTalk(what, v) ? hearsay.ledger.add(what, v, 0) : NONE;
     }
 
     public int denies() {
-        return hearsay.empty();
+        return hearsay.ledger.empty();
     }
 
     public int fits() {
@@ -537,14 +510,11 @@ public final class ConfettiMinutes {
 
     public int went(int w, int i, int v) {
         boolean known = isWithin(w, -CALM, CALM) && isWithin(i, 0, MOST_BITS - 1) && isWithin(v, -20, 20);
-        if (!known || flights.isFull()) {
-            return NONE;
-        }
-        return flights.add(w, i, v);
+        return known ? flights.ledger.add(w, i, v) : NONE;
     }
 
     public int clears() {
-        return flights.empty();
+        return flights.ledger.empty();
     }
 
     public int scatters() {
@@ -583,7 +553,7 @@ public final class ConfettiMinutes {
         if (!isWithin(n, 0, 60)) {
             return NONE;
         }
-        return Games.winningHandful(n);
+        return winningHandful(n);
     }
 
     public int other() {
@@ -613,7 +583,7 @@ public final class ConfettiMinutes {
         told.clear();
         for (int x = 0; x <= 9; x++) {
             for (int y = 0; y <= 9; y++) {
-                if (Games.isContent(v, x, y) && Games.isContent(v, y, x)) {
+                if (isContent(v, x, y) && isContent(v, y, x)) {
                     if (pairs == 0) {
                         told.tell(x, y);
                     }
@@ -677,11 +647,11 @@ public final class ConfettiMinutes {
     private int countKept(int what) {
         switch (what) {
             case 8:
-                return sights.size();
+                return sights.ledger.size();
             case 9:
-                return hearsay.size();
+                return hearsay.ledger.size();
             case 10:
-                return flights.size();
+                return flights.ledger.size();
             case 11:
                 return past.size();
             case 12:
@@ -691,6 +661,26 @@ public final class ConfettiMinutes {
             default:
                 return -100;
         }
+    }
+
+    private int readLines(char least, char most, boolean ofLaws) {
+        int length = text.take();
+        if (length == 0) {
+            return 0;
+        }
+        int fault = text.faultOfLines(length, least, most, MOST - (ofLaws ? now.lawCount : now.peopleCount));
+        if (fault >= 0) {
+            return -1 - fault;
+        }
+        for (int p = 0; p < length; p += 2) {
+            if (ofLaws) {
+                now.addLaw(text.digitAt(p));
+            } else {
+                now.addOne(text.digitAt(p));
+            }
+        }
+        past.forgetAll();
+        return (length + 1) / 2;
     }
 
     /** What was done can be undone, what was refused can't: so each deed passes its answer through here. */
@@ -743,6 +733,40 @@ public final class ConfettiMinutes {
             ways *= (left >> b & 1) != 0 ? 10 - p : p;
         }
         return ways;
+    }
+
+    /** The least handful that leaves a heap by which the other one loses, 0 if there is none. */
+    private static int winningHandful(int n) {
+        long lost = 0;
+        int handful = 0;
+        for (int heap = 0; heap <= n; heap++) {
+            handful = handfulOutOf(heap, lost);
+            lost |= handful == 0 ? 1L << heap : 0;
+        }
+        return handful;
+    }
+
+    private static int handfulOutOf(int heap, long lost) {
+        for (int root = 1; root * root <= heap; root++) {
+            if ((lost >> heap - root * root & 1) != 0) {
+                return root * root;
+            }
+        }
+        return 0;
+    }
+
+    /** Whether one who grasps at own would not have more by another number. */
+    private static boolean isContent(int v, int own, int others) {
+        for (int x = 0; x <= 9; x++) {
+            if (grasped(v, x, others) > grasped(v, own, others)) {
+                return false;
+            }
+        }
+        return true;
+    }
+
+    private static int grasped(int v, int own, int others) {
+        return own + others <= v ? 2 * own : Math.max(0, v - others - 3);
     }
 
     private static boolean isWithin(int v, int least, int most) {
@@ -1728,37 +1752,57 @@ public final class ConfettiMinutes {
         }
     }
 
-    /** Where BITS would lie, and by which WINDS. */
-    private static final class Sights {
-        private static final int MOST_SIGHTS = 10;
+    /** Things that were told, each as three numbers, as many as there is room for. */
+    private static final class Ledger {
+        private static final int NUMBERS = 3;
+        private static final int MOST_ROOM = 12;
 
-        private final int[] slots = new int[MOST_SIGHTS];
-        private final int[] streets = new int[MOST_SIGHTS];
-        private final int[] tally = new int[STREETS];
+        private final int[] numbers = new int[NUMBERS * MOST_ROOM];
+        private final int room;
         private int size;
+
+        Ledger(int room) {
+            this.room = Math.min(room, MOST_ROOM);
+        }
 
         int size() {
             return size;
         }
 
-        boolean isFull() {
-            return size >= MOST_SIGHTS;
-        }
-
-        int add(int slot, int street) {
-            if (size < MOST_SIGHTS) {
-                slots[size] = slot;
-                streets[size] = street;
-                size++;
+        /** How many there are then, or NONE if there is no room. */
+        int add(int first, int second, int third) {
+            if (size >= room) {
+                return NONE;
             }
+            int from = NUMBERS * size;
+            numbers[from] = first;
+            numbers[from + 1] = second;
+            numbers[from + 2] = third;
+            size++;
             return size;
         }
 
+        int at(int entry, int which) {
+            int i = NUMBERS * entry + which;
+            return i >= 0 && i < NUMBERS * MOST_ROOM ? numbers[i] : 0;
+        }
+
+        boolean isFull() {
+            return size >= room;
+        }
+
+        /** How many there were. */
         int empty() {
             int n = size;
             size = 0;
             return n;
         }
+    }
+
+    /** Where BITS would lie (LAW, BIT, STREET), and by which WINDS. */
+    private static final class Sights {
+        private final Ledger ledger = new Ledger(10);
+        private final int[] tally = new int[STREETS];
 
         int windsLeft(Town town, Rule rule, Weather weather) {
             weather.countCrowd(town);
@@ -1770,8 +1814,9 @@ public final class ConfettiMinutes {
         }
 
         private boolean suits(Town town, Rule rule, Weather weather, int wind) {
-            for (int i = 0; i < size && i < MOST_SIGHTS; i++) {
-                if (!town.lies(slots[i]) || weather.landingOf(town, rule, slots[i], wind) != streets[i]) {
+            for (int i = 0; i < ledger.size(); i++) {
+                int slot = slotOf(ledger.at(i, 0), ledger.at(i, 1));
+                if (!town.lies(slot) || weather.landingOf(town, rule, slot, wind) != ledger.at(i, 2)) {
                     return false;
                 }
             }
@@ -1798,36 +1843,9 @@ public final class ConfettiMinutes {
         }
     }
 
-    /** What was heard of one of PEOPLE. */
+    /** What was heard of one of PEOPLE (what, v). */
     private static final class Hearsay {
-        private static final int MOST_TALK = 12;
-
-        private final int[] whats = new int[MOST_TALK];
-        private final int[] values = new int[MOST_TALK];
-        private int size;
-
-        int size() {
-            return size;
-        }
-
-        boolean isFull() {
-            return size >= MOST_TALK;
-        }
-
-        int add(int what, int v) {
-            if (size < MOST_TALK) {
-                whats[size] = what;
-                values[size] = v;
-                size++;
-            }
-            return size;
-        }
-
-        int empty() {
-            int n = size;
-            size = 0;
-            return n;
-        }
+        private final Ledger ledger = new Ledger(12);
 
         static boolean isTalk(int what, int v) {
             switch (what) {
@@ -1852,8 +1870,8 @@ public final class ConfettiMinutes {
         }
 
         private boolean suits(Town town, int one) {
-            for (int i = 0; i < size && i < MOST_TALK; i++) {
-                if (!isSo(town, one, whats[i], values[i])) {
+            for (int i = 0; i < ledger.size(); i++) {
+                if (!isSo(town, one, ledger.at(i, 0), ledger.at(i, 1))) {
                     return false;
                 }
             }
@@ -1887,39 +1905,11 @@ public final class ConfettiMinutes {
         }
     }
 
-    /** How far BITS went, and laws of scattering, by their numbers: 5 times a, and b and 2. */
+    /** How far BITS went (WIND, BIT, STREETS), and laws of scattering, by their numbers: 5 times a, and b and 2. */
     private static final class Flights {
-        private static final int MOST_FLIGHTS = 10;
         private static final int LAWS = 20;
 
-        private final int[] winds = new int[MOST_FLIGHTS];
-        private final int[] numbers = new int[MOST_FLIGHTS];
-        private final int[] ways = new int[MOST_FLIGHTS];
-        private int size;
-
-        int size() {
-            return size;
-        }
-
-        boolean isFull() {
-            return size >= MOST_FLIGHTS;
-        }
-
-        int add(int w, int i, int v) {
-            if (size < MOST_FLIGHTS) {
-                winds[size] = w;
-                numbers[size] = i;
-                ways[size] = v;
-                size++;
-            }
-            return size;
-        }
-
-        int empty() {
-            int n = size;
-            size = 0;
-            return n;
-        }
+        private final Ledger ledger = new Ledger(10);
 
         static int timesWind(int law) {
             return law / 5;
@@ -1950,8 +1940,8 @@ public final class ConfettiMinutes {
         }
 
         private boolean suits(int law) {
-            for (int j = 0; j < size && j < MOST_FLIGHTS; j++) {
-                if (wayBy(law, winds[j], numbers[j]) != ways[j]) {
+            for (int i = 0; i < ledger.size(); i++) {
+                if (wayBy(law, ledger.at(i, 0), ledger.at(i, 1)) != ledger.at(i, 2)) {
                     return false;
                 }
             }
@@ -1970,46 +1960,6 @@ public final class ConfettiMinutes {
                 most = Math.max(most, like);
             }
             return most;
-        }
-    }
-
-    /** Games that have nothing to do with the town. */
-    private static final class Games {
-        private Games() {
-        }
-
-        /** The least handful that leaves a heap by which the other one loses, 0 if there is none. */
-        static int winningHandful(int n) {
-            long lost = 0;
-            int handful = 0;
-            for (int heap = 0; heap <= n; heap++) {
-                handful = handfulOutOf(heap, lost);
-                lost |= handful == 0 ? 1L << heap : 0;
-            }
-            return handful;
-        }
-
-        private static int handfulOutOf(int heap, long lost) {
-            for (int root = 1; root * root <= heap; root++) {
-                if ((lost >> heap - root * root & 1) != 0) {
-                    return root * root;
-                }
-            }
-            return 0;
-        }
-
-        /** Whether one who grasps at own would not have more by another number. */
-        static boolean isContent(int v, int own, int others) {
-            for (int x = 0; x <= 9; x++) {
-                if (grasped(v, x, others) > grasped(v, own, others)) {
-                    return false;
-                }
-            }
-            return true;
-        }
-
-        private static int grasped(int v, int own, int others) {
-            return own + others <= v ? 2 * own : Math.max(0, v - others - 3);
         }
     }
 }
