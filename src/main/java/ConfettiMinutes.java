@@ -4,12 +4,16 @@ import java.util.NoSuchElementException;
 public final class ConfettiMinutes {
     public static final int NONE = -1;
 
+    /** LAWS at most, and PEOPLE. */
     private static final int MOST = 5;
     private static final int MOST_BITS = 4;
+    /** A slot for each BIT that there may be. */
     private static final int SLOTS = 20;
     private static final int STREETS = 8;
     private static final int WINDS = 7;
-    private static final int CALM = 3;
+    /** The strongest WIND, up or down. */
+    private static final int GALE = 3;
+    /** A BIT's place is told as bit() tells it: HELD and who, or AWAY. */
     private static final int HELD = 10;
     private static final int AWAY = 20;
     private static final int NOBODY = 5;
@@ -289,10 +293,10 @@ public final class ConfettiMinutes {
         if (!now.hasOne(one) || !isWithin(n, 0, NEAR)) {
             return NONE;
         }
-        int best = -CALM;
+        int best = -GALE;
         int most = -1;
         int asItIs = 0;
-        for (int v = -CALM; v <= CALM; v++) {
+        for (int v = -GALE; v <= GALE; v++) {
             dream.become(now);
             dream.wind = v;
             weather.passDays(dream, blowing, n);
@@ -423,7 +427,7 @@ public final class ConfettiMinutes {
 
     public int guess() {
         int winds = sights.windsLeft(now, blowing, weather);
-        told.tell(Integer.bitCount(winds), winds >> now.wind + CALM & 1);
+        told.tell(Integer.bitCount(winds), winds >> now.wind + GALE & 1);
         return winds;
     }
 
@@ -509,7 +513,7 @@ public final class ConfettiMinutes {
     // ---- laws of scattering
 
     public int went(int w, int i, int v) {
-        boolean known = isWithin(w, -CALM, CALM) && isWithin(i, 0, MOST_BITS - 1) && isWithin(v, -20, 20);
+        boolean known = isWithin(w, -GALE, GALE) && isWithin(i, 0, MOST_BITS - 1) && isWithin(v, -20, 20);
         return known ? flights.ledger.add(w, i, v) : NONE;
     }
 
@@ -534,12 +538,12 @@ public final class ConfettiMinutes {
         }
         int best = 0;
         int fewest = Flights.LAWS + 1;
-        for (int w = -CALM; w <= CALM; w++) {
+        for (int w = -GALE; w <= GALE; w++) {
             for (int i = 0; i < MOST_BITS; i++) {
                 int most = Flights.mostLeft(left, w, i);
                 if (most < fewest) {
                     fewest = most;
-                    best = 10 * (CALM + w) + i;
+                    best = 10 * (GALE + w) + i;
                 }
             }
         }
@@ -1446,7 +1450,7 @@ public final class ConfettiMinutes {
         }
 
         int turnWind(int v) {
-            if (!isWithin(v, -CALM, CALM)) {
+            if (!isWithin(v, -GALE, GALE)) {
                 return NONE;
             }
             if (v == wind) {
@@ -1497,7 +1501,7 @@ public final class ConfettiMinutes {
                 if (lot < 2) {
                     picked += passDays(town, rule, 1);
                 } else if (lot == 2) {
-                    town.wind = draw(WINDS) - CALM;
+                    town.wind = draw(WINDS) - GALE;
                 } else if (town.peopleCount > 0) {
                     int one = draw(town.peopleCount);
                     town.settle(one, draw(STREETS));
@@ -1807,8 +1811,8 @@ public final class ConfettiMinutes {
         int windsLeft(Town town, Rule rule, Weather weather) {
             weather.countCrowd(town);
             int winds = 0;
-            for (int v = -CALM; v <= CALM; v++) {
-                winds |= suits(town, rule, weather, v) ? 1 << v + CALM : 0;
+            for (int v = -GALE; v <= GALE; v++) {
+                winds |= suits(town, rule, weather, v) ? 1 << v + GALE : 0;
             }
             return winds;
         }
@@ -1830,8 +1834,8 @@ public final class ConfettiMinutes {
                 tally[street] = 0;
             }
             int most = 0;
-            for (int v = -CALM; v <= CALM; v++) {
-                if ((winds >> v + CALM & 1) != 0) {
+            for (int v = -GALE; v <= GALE; v++) {
+                if ((winds >> v + GALE & 1) != 0) {
                     int street = weather.landingOf(town, rule, slot, v);
                     if (street >= 0 && street < STREETS) {
                         tally[street]++;
