@@ -5,11 +5,21 @@ import java.util.NoSuchElementException;
 /** Counts answers that are not as due, and prints them; what all tests of the project share. */
 final class Check {
     private final String name;
+    private String about = "";
     private int asked;
     private int wrong;
 
     Check(String name) {
         this.name = name;
+    }
+
+    /** What the answers are about from now on, as faults are to tell it. */
+    void about(String words) {
+        about = words;
+    }
+
+    int asked() {
+        return asked;
     }
 
     void due(String call, long got, long want) {
@@ -49,7 +59,7 @@ final class Check {
 
     void fault(String what) {
         wrong++;
-        System.out.println(name + ": " + what);
+        System.out.println(name + ": " + about + what);
     }
 
     void end() {
