@@ -7,7 +7,8 @@ import java.util.TreeSet;
 
 /** Boundary cases of the document, each with a test of its own under the very words that name it. */
 final class Edges {
-    /** The Terms stand ahead of promise 1. */
+    /** What stands ahead of promise 1. */
+    static final int WHAT_IT_IS = -1;
     static final int TERMS = 0;
     private static final Path DOCUMENT = Path.of("../shared/DOC.md");
 
@@ -21,8 +22,17 @@ final class Edges {
 
     Edges(String name) {
         check = new Check(name);
+        document = read();
+    }
+
+    /** A checkout without the document can still run the trials: the words alone are not looked up then. */
+    private static String read() {
+        if (!Files.isReadable(DOCUMENT)) {
+            System.out.println("no " + DOCUMENT + ": words are not looked up");
+            return "";
+        }
         try {
-            document = Files.readString(DOCUMENT).replaceAll("\\s+", " ");
+            return Files.readString(DOCUMENT).replaceAll("\\s+", " ");
         } catch (IOException e) {
             throw new UncheckedIOException(e);
         }
@@ -30,8 +40,8 @@ final class Edges {
 
     /** The words must stand in the document as they are quoted, so that no test is left behind when it changes. */
     void edge(int promise, String words, Trial trial) {
-        check.about((promise == TERMS ? "Terms" : "promise " + promise) + ", '" + words + "': ");
-        check.due("the document says so", sectionOf(promise).contains(words), true);
+        check.about(headOf(promise) + " '" + words + "': ");
+        check.due("the document says so", document.isEmpty() || sectionOf(promise).contains(words), true);
         int asked = check.asked();
         try {
             trial.run(check);
@@ -52,12 +62,19 @@ final class Edges {
     }
 
     private String sectionOf(int promise) {
-        int from = document.indexOf(promise == TERMS ? "## Terms" : "## Promise " + promise + ":");
+        int from = document.indexOf(headOf(promise));
         if (from < 0) {
             return "";
         }
         int to = document.indexOf("## ", from + 3);
         return document.substring(from, to < 0 ? document.length() : to);
+    }
+
+    private static String headOf(int promise) {
+        if (promise > TERMS) {
+            return "## Promise " + promise + ":";
+        }
+        return promise == TERMS ? "## Terms" : "## What it is";
     }
 
     /** A town in which no wind blows, and these acts done: BITS stay, and one HOLDS a BIT more each DAY. */

@@ -74,6 +74,15 @@ public final class EdgesOfDaysTest {
             c.due("behind 60", last.when(0, 3), 60);
             c.row("behind 60", last, 3, 1);
         });
+        EDGES.edge(22, "the ROW: how many of its BITS he HOLDS then, how many BITS (of all LAWS) lie then.", c -> {
+            ConfettiMinutes x = Edges.calm("1;4;4", "0;0", "c0c1c2t00t10t27n1");
+            c.due("he has", x.when(0, 0), 0);
+            c.row("he has", x, 1, 7);
+            c.due("half of it", x.when(1, 1), -2);
+            ConfettiMinutes all = Edges.calm("4", "0", "c0t00n4");
+            c.due("he has all", all.when(0, 0), 0);
+            c.row("he has all", all, 4, 0);
+        });
         EDGES.edge(22, "-2: behind none of these;", c -> {
             ConfettiMinutes x = slow("4;4;2;4", "c3t30");
             x.line();
@@ -171,6 +180,19 @@ public final class EdgesOfDaysTest {
             Check.text(x, "t00s0").wedding();
             c.due("swept up", x.aims(0, 0, 1), 5);
         });
+        EDGES.edge(25, "the ROW: from how many of the eight he does.", c -> {
+            for (int street = 0; street <= 7; street++) {
+                ConfettiMinutes x = Edges.ruled("1", "" + street, "", "");
+                for (int n = 1; n <= 8; n++) {
+                    int due = street == 7 ? Math.min(8, n + 1) : Math.min(street, n);
+                    int first = street == 7 ? 8 - due : street - due;
+                    c.due("to " + street + " in " + n, x.aims(0, 0, n), due == 0 ? -2 : first);
+                    if (due > 0) {
+                        c.row("to " + street + " in " + n, x, due);
+                    }
+                }
+            }
+        });
         EDGES.edge(25, "-2: from none;", c -> {
             ConfettiMinutes x = crawls("5", "");
             x.line();
@@ -217,6 +239,14 @@ public final class EdgesOfDaysTest {
             y.wind(3);
             c.due("as it is", y.prays(0, 1), 13);
             c.row("as it is", y, 1, 1);
+        });
+        EDGES.edge(26, "The WIND (from -3 on) that is to blow from now on", c -> {
+            for (int v = -3; v <= 3; v++) {
+                ConfettiMinutes x = Edges.ruled("1", "" + (3 + v), "", "c0t03");
+                c.due("by " + v, x.prays(0, 1), 10 + v);
+                c.row("by " + v, x, 1, v == 1 ? 1 : 0);
+                c.due("WIND stays", x.count(2), 11);
+            }
         });
         EDGES.edge(26, "(of equal ones the least)", c -> {
             ConfettiMinutes x = Edges.ruled("2", "0;7", "", "c0t01");

@@ -228,7 +228,7 @@ public final class EdgesOfGamesTest {
             x.wind(3);
             c.due("the most", x.count(2), 13);
         });
-        EDGES.edge(54, "4: which are CARRIED (bits), 5: which are FLUNG (bits), 6: how many BITS lie, 7: how many are HELD", c -> {
+        EDGES.edge(54, "4: which are CARRIED (bits), 5: which are FLUNG (bits), 6: how many BITS lie, 7: how many are", c -> {
             ConfettiMinutes x = Edges.calm("4;4;4;4;4", "0;0;0;0;0", "");
             c.due("none is CARRIED", x.count(4), 0);
             Check.text(x, "c0c1c2c3c4t00t10t20t30t40").wedding();
@@ -242,6 +242,19 @@ public final class EdgesOfGamesTest {
             Check.text(x, "s4").wedding();
             c.due("CARRIED are four", x.count(4), 15);
             c.due("FLUNG are four", x.count(5), 15);
+        });
+        EDGES.edge(54, "8: what was seen, 9: what was heard, 10: what was told (went()), 11: what can be undone", c -> {
+            ConfettiMinutes x = Edges.ruled("1", "0", "", "c0t03");
+            for (int n = 1; n <= 16; n++) {
+                x.seen(0, 0, 3);
+                x.heard(0, 0);
+                x.went(0, 0, 0);
+                c.due("seen " + n, x.count(8), Math.min(10, n));
+                c.due("heard " + n, x.count(9), Math.min(12, n));
+                c.due("told " + n, x.count(10), Math.min(10, n));
+                c.due("can be undone", x.count(11), Math.min(15, n));
+                x.days(0);
+            }
         });
         EDGES.edge(54, "12: numbers of the ROW, 13: signs of THE TEXT.", c -> {
             ConfettiMinutes x = new ConfettiMinutes();

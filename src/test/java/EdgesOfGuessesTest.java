@@ -27,7 +27,7 @@ public final class EdgesOfGuessesTest {
     }
 
     private static void seen() {
-        EDGES.edge(35, "would lie in a STREET (0 .. 7) behind (1) of the next DAY (whoever picks it up): how many such.", c -> {
+        EDGES.edge(35, "would lie in a STREET (0 .. 7) behind (1) of the next DAY (whoever picks it up)", c -> {
             ConfettiMinutes x = lying("2", "4");
             c.due("STREET 0", x.seen(0, 0, 0), 1);
             c.due("STREET 7", x.seen(0, 1, 7), 2);
@@ -98,6 +98,15 @@ public final class EdgesOfGuessesTest {
             c.due("0 to 3 lead to 7", high.guess(), 120);
             c.row("0 to 3 lead to 7", high, 4, 1);
         });
+        EDGES.edge(35, "It was seen that a BIT that lies now", c -> {
+            ConfettiMinutes x = Edges.ruled("4;1;3", "", "w*(i+1)+l", "c0c1c2t00t15t22");
+            int[][] due = {{0, 3, 4, 16}, {0, 1, 2, 16}, {1, 0, 3, 1}, {2, 0, 2, 2}, {2, 0, 5, 16}, {2, 1, 6, 16}, {2, 2, 1, 4}};
+            for (int[] a : due) {
+                x.seen(a[0], a[1], a[2]);
+                c.due("BIT " + a[1] + " of LAW " + a[0] + " in " + a[2], x.guess(), a[3]);
+                x.forget();
+            }
+        });
         EDGES.edge(37, "(a BIT that does not lie any more fits none)", c -> {
             ConfettiMinutes x = lying("2", "4");
             x.seen(0, 0, 4);
@@ -137,6 +146,24 @@ public final class EdgesOfGuessesTest {
             x.sweeps(0);
             c.due("the first that lies", x.looks(), 40);
             c.row("the first that lies", x, 7);
+        });
+        EDGES.edge(38, "so that, wherever it would, the fewest of these WINDS are left at most", c -> {
+            ConfettiMinutes x = Edges.ruled("1;1;1", "", "", "c0c1c2t00t11t22");
+            c.due("one that four WINDS, three, two blow to 0", x.looks(), 20);
+            c.row("two are left at most", x, 2);
+            x.sweeps(2);
+            c.due("one that four WINDS, three blow to 0", x.looks(), 10);
+            c.row("three are left at most", x, 3);
+            x.sweeps(1);
+            c.due("one alone", x.looks(), 0);
+            c.row("four are left at most", x, 4);
+            x.seen(0, 0, 0);
+            c.due("of those that are left", x.looks(), 0);
+            c.row("of those that are left", x, 4);
+            x.forget();
+            x.seen(0, 0, 3);
+            c.due("of one that is left", x.looks(), 0);
+            c.row("of one that is left", x, 1);
         });
         EDGES.edge(38, "-2: none is left, or none lies.", c -> {
             ConfettiMinutes x = Edges.calm("2;1", "3", "c0");
@@ -267,12 +294,29 @@ public final class EdgesOfGuessesTest {
             c.due("nothing tells five apart", five.asks(), 0);
             c.row("nothing tells five apart", five, 5);
             c.due("the last that may be asked", alike().asks(), 34);
+            ConfettiMinutes bit = Edges.calm("1;1", "0;0", "c0c1t00t10n1");
+            c.due("he HOLDS a BIT of LAW 0", bit.asks(), 20);
+            c.row("he HOLDS a BIT of LAW 0", bit, 1);
+            ConfettiMinutes right = Edges.calm("3;4", "0;0", "c1t10n1p07n1p05p15c0t05n1p16n1p15");
+            c.due("he has a RIGHT by LAW 0", right.asks(), 30);
+            c.row("he has a RIGHT by LAW 0", right, 1);
             ConfettiMinutes street = Check.town("", "7;6");
             c.due("STREET 6 is less than 7", street.asks(), 6);
             c.row("STREET 6 is less than 7", street, 1);
             ConfettiMinutes nine = Edges.calm("4;4;4;4;4", "0;0", "c0c1c2c3c4t00t10t20t30t40n8p17n1p10");
             c.due("he HOLDS 9 or more", nine.asks(), 19);
             c.row("he HOLDS 9 or more", nine, 1);
+        });
+        EDGES.edge(42, "so that, it is so or not, the fewest such PEOPLE are left at most", c -> {
+            ConfettiMinutes x = Check.town("", "0;1;2;2;2");
+            c.due("two and three", x.asks(), 2);
+            c.row("two and three", x, 3);
+            ConfettiMinutes y = Check.town("", "3;3;3;3;1");
+            c.due("one and four", y.asks(), 1);
+            c.row("one and four", y, 4);
+            y.heard(0, 3);
+            c.due("of such alone", y.asks(), 0);
+            c.row("of such alone", y, 4);
         });
         EDGES.edge(42, "-2: none fits.", c -> {
             ConfettiMinutes none = new ConfettiMinutes();
@@ -400,6 +444,13 @@ public final class EdgesOfGuessesTest {
             x.went(0, 1, 2);
             c.due("one is left", x.tries(), 0);
             c.row("one is left", x, 1);
+            for (int law = 0; law < 20; law++) {
+                x.clears();
+                x.went(1, 0, law / 5);
+                x.went(0, 1, law % 5 - 2);
+                c.due("law " + law + " alone is left", x.tries(), 0);
+                c.row("law " + law + " alone is left", x, 1);
+            }
             x.clears();
             x.went(0, 1, 2);
             c.due("a tells", x.tries(), 0);

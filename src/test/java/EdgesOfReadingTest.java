@@ -13,6 +13,7 @@ public final class EdgesOfReadingTest {
         people();
         peopleTooLong();
         rule();
+        rulesOneByOne();
         ruleTooLong();
         law();
         bit();
@@ -224,9 +225,9 @@ public final class EdgesOfReadingTest {
             c.due("by WIND then", x.later(0, 0, 1), 1);
         });
         EDGES.edge(6, "-1 - p: the sign at p can't stand there", c -> {
-            String[] texts = {")", "*", "+1", "<1", "x", "W", " w", "w w", "ww", "w(", "1(", "(w)w", "(w)(", "()", "(+", "w)",
-                "(w))", "1<2<3", "1234", "w+*", "w+)", "w<=", "w-)", "1;", "1/", "(((((", "-)", "--x"};
-            int[] due = {-1, -1, -1, -1, -1, -1, -1, -2, -2, -2, -2, -4, -4, -2, -2, -2,
+            String[] texts = {"/", ":", "1:", "w:", ")", "*", "+1", "<1", "x", "W", " w", "w w", "ww", "w(", "1(",
+                "(w)w", "(w)(", "()", "(+", "w)", "(w))", "1<2<3", "1234", "w+*", "w+)", "w<=", "w-)", "1;", "1/", "(((((", "-)", "--x"};
+            int[] due = {-1, -1, -2, -2, -1, -1, -1, -1, -1, -1, -1, -2, -2, -2, -2, -4, -4, -2, -2, -2,
                 -4, -4, -4, -3, -3, -3, -3, -2, -3, -5, -2, -3};
             for (int t = 0; t < texts.length; t++) {
                 c.due(texts[t], rule(texts[t]), due[t]);
@@ -244,6 +245,22 @@ public final class EdgesOfReadingTest {
             c.due("40 signs that could go on", rule(FORTY.substring(0, 39) + "+"), -41);
             c.due("40 signs with two ( that are open", rule("((" + FORTY.substring(2)), -41);
             c.due("39 signs with a ( that is open", rule("(" + FORTY.substring(2)), -40);
+        });
+    }
+
+    private static void rulesOneByOne() {
+        EDGES.edge(6, "THE TEXT is THE RULE", c -> {
+            String[] texts = {"1<2", "2<1", "1<2<3", "(1<2)+1", "1<2", "-", "2", "((((3", "((((3))))", "(((((3", "((((1))))",
+                "12", "1234", "3", "4*(1+", "1-2+3", "(1<2", "(1<2)*5", "1<(2<3", "6-(2>1)", "-(", "4", "9-2*", "2"};
+            int[] due = {1, 0, -1, 2, 1, -1, 2, -1, 3, -1, 1,
+                7, -1, 3, -1, 2, -1, 5, -1, 5, -1, 4, -1, 2};
+            ConfettiMinutes x = Edges.ruled("1", "", "", "c0t00");
+            int street = 1;
+            for (int t = 0; t < texts.length; t++) {
+                c.due(texts[t] + " is refused", Check.text(x, texts[t]).rule() < 0, due[t] < 0);
+                street = due[t] < 0 ? street : due[t];
+                c.due("a BIT behind " + texts[t], x.later(0, 0, 1), street);
+            }
         });
     }
 
@@ -386,6 +403,15 @@ public final class EdgesOfReadingTest {
             streets(c, x, 0, 0, 1);
             c.due("ints 6, 7, 8", x.sheet(2, 3, 6, 1), 20);
             streets(c, x, 6, 7, 7);
+        });
+        EDGES.edge(10, "bytes (kind 0), shorts (1), ints (2)", c -> {
+            ConfettiMinutes x = Check.town("", "1");
+            int[][] due = {{0, 128, 0}, {1, 128, 7}, {2, 128, 7}, {0, 32769, 1}, {1, 32769, 0}, {2, 32769, 7},
+                {0, 65536, 0}, {1, 65536, 0}, {2, 65536, 7}, {0, -250, 6}, {1, -250, 0}, {1, -65530, 6}, {2, -65530, 0}};
+            for (int[] a : due) {
+                c.due("kind " + a[0] + " of " + a[1], x.sheet(a[0], 1, a[1], 0), a[2]);
+                streets(c, x, a[2]);
+            }
         });
         EDGES.edge(10, "ints (2) of n entries f, f + step, ..", c -> {
             ConfettiMinutes x = Check.town("", "1;1;1;1;1");

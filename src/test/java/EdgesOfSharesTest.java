@@ -17,7 +17,7 @@ public final class EdgesOfSharesTest {
     }
 
     private static void whole() {
-        EDGES.edge(28, "The fewest PEOPLE who HOLD all BITS of a LAW together: how many; the ROW: they", c -> {
+        EDGES.edge(28, "The fewest PEOPLE who HOLD all BITS of a LAW together: how many; the ROW: they (bits", c -> {
             ConfettiMinutes x = Edges.calm("4;1", "0;0;0;0;0", "c0c1t00t10n1");
             c.due("each has one of them", x.whole(0), 4);
             c.row("each has one of them", x, 15);
@@ -89,6 +89,18 @@ public final class EdgesOfSharesTest {
             ConfettiMinutes all = Edges.calm("1;4", "0", "c0c1t00t10n5");
             c.due("one has all of both", all.awards(), 4);
             c.row("one has all of both", all, -1, 0);
+            ConfettiMinutes last = Edges.calm("1;1;1;1;1", "1;1;1;1;0", "c0c1c2c3c4t00t10t20t30t40n5");
+            c.due("the last has all of five", last.awards(), 1);
+            c.row("the last has all of five", last, -1, -1, -1, -1, 4);
+            ConfettiMinutes more = Edges.calm("4;1", "0;0", "c0c1t00n2t10p07n1");
+            c.due("one has more of a LAW that is awarded already", more.awards(), 3);
+            c.row("one has more of a LAW that is awarded already", more, 0, 1);
+            ConfettiMinutes two = Edges.calm("2;2;1", "1;0;0", "c0c1c2t00t10n2t20n1");
+            c.due("two have of two, one of them of three", two.awards(), 2);
+            c.row("two have of two, one of them of three", two, -1, 2, 1);
+            two.gives(1, 0, 2);
+            c.due("a third has the third", two.awards(), 3);
+            c.row("a third has the third", two, 1, 2, 0);
         });
         EDGES.edge(30, "(-1: nobody; of as many the least row)", c -> {
             ConfettiMinutes x = Edges.calm("1;1", "0;1", "c0c1t00t10n2");
