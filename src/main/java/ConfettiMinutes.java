@@ -1576,7 +1576,7 @@ public final class ConfettiMinutes {
                 first = (first + 1) % DEEDS;
                 size--;
             }
-            Town kept = deeds[(first + size) % DEEDS];
+            Town kept = deedAt(size);
             if (kept != null) {
                 kept.become(town);
                 size++;
@@ -1588,11 +1588,17 @@ public final class ConfettiMinutes {
                 return NONE;
             }
             size--;
-            Town kept = deeds[(first + size) % DEEDS];
+            Town kept = deedAt(size);
             if (kept != null) {
                 town.become(kept);
             }
             return size;
+        }
+
+        /** How it was ahead of a deed, by its place behind the first that is kept. */
+        private Town deedAt(int place) {
+            int i = (first + place) % DEEDS;
+            return i >= 0 ? deeds[i] : null;
         }
 
         boolean store(int i, Town town) {
@@ -1663,14 +1669,10 @@ public final class ConfettiMinutes {
 
         /** The most BITS by awards of all LAWS; best has, for LAWS from one on and PEOPLE taken, the most. */
         int weighAwards(Town town) {
-            int sets = 1 << town.peopleCount;
-            for (int set = 0; set < sets; set++) {
-                best[town.lawCount * SETS + set] = 0;
-            }
-            for (int law = town.lawCount - 1; law >= 0; law--) {
-                for (int set = 0; set < sets; set++) {
+            for (int law = MOST; law >= 0; law--) {
+                for (int set = 0; set < SETS; set++) {
                     int most = 0;
-                    for (int one = -1; one < town.peopleCount; one++) {
+                    for (int one = -1; law < town.lawCount && one < town.peopleCount; one++) {
                         most = Math.max(most, worth(town, law, set, one));
                     }
                     best[law * SETS + set] = most;
@@ -1684,7 +1686,7 @@ public final class ConfettiMinutes {
             told.clear();
             for (int law = 0; law < town.lawCount; law++) {
                 int who = -1;
-                while (who < town.peopleCount && worth(town, law, taken, who) < best[law * SETS + taken]) {
+                while (who < town.peopleCount && worth(town, law, taken, who) < bestOf(law, taken)) {
                     who++;
                 }
                 told.add(who);
@@ -1694,14 +1696,18 @@ public final class ConfettiMinutes {
 
         /** What an award of a LAW to one (-1: nobody) is worth with all behind it, or -1 if he is taken. */
         private int worth(Town town, int law, int taken, int one) {
-            int next = (law + 1) * SETS;
             if (one < 0) {
-                return best[next + taken];
+                return bestOf(law + 1, taken);
             }
             if ((taken >> one & 1) != 0) {
                 return -1;
             }
-            return town.heldByOf(one, law) + best[next + (taken | 1 << one)];
+            return town.heldByOf(one, law) + bestOf(law + 1, taken | 1 << one);
+        }
+
+        private int bestOf(int law, int taken) {
+            boolean known = isWithin(law, 0, MOST) && isWithin(taken, 0, SETS - 1);
+            return known ? best[law * SETS + taken] : 0;
         }
 
         /** Who HOLDS the most, of like ones the first, but for those placed. */
