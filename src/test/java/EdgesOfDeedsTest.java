@@ -195,6 +195,10 @@ public final class EdgesOfDeedsTest {
             c.due("the other LAW's BIT stays", x.bit(1, 0), 10);
             c.due("one", x.gives(0, 1, 1), 1);
             c.due("nothing is left", x.one(0, 2), 0);
+            ConfettiMinutes y = Edges.calm("4;4;4", "0;7", "c0c1c2t00t10t20n9n3");
+            c.due("all of the second of three LAWS", y.gives(0, 1, 1), 4);
+            c.due("the last BIT of the LAW ahead of it stays", y.bit(0, 3), 10);
+            c.due("the first BIT of the LAW behind it stays", y.bit(2, 0), 10);
         });
         EDGES.edge(16, "-2: he has none;", c -> {
             ConfettiMinutes x = Edges.calm("1;2;1", "0;0", "c0c1t00t15n1");

@@ -251,9 +251,11 @@ public final class EdgesOfReadingTest {
     private static void rulesOneByOne() {
         EDGES.edge(6, "THE TEXT is THE RULE", c -> {
             String[] texts = {"1<2", "2<1", "1<2<3", "(1<2)+1", "1<2", "-", "2", "((((3", "((((3))))", "(((((3", "((((1))))",
-                "12", "1234", "3", "4*(1+", "1-2+3", "(1<2", "(1<2)*5", "1<(2<3", "6-(2>1)", "-(", "4", "9-2*", "2"};
+                "12", "1234", "3", "4*(1+", "1-2+3", "(1<2", "(1<2)*5", "1<(2<3", "6-(2>1)", "-(", "4", "9-2*", "2",
+                "-1", "3", "2"};
             int[] due = {1, 0, -1, 2, 1, -1, 2, -1, 3, -1, 1,
-                7, -1, 3, -1, 2, -1, 5, -1, 5, -1, 4, -1, 2};
+                7, -1, 3, -1, 2, -1, 5, -1, 5, -1, 4, -1, 2,
+                0, 3, 2};
             ConfettiMinutes x = Edges.ruled("1", "", "", "c0t00");
             int street = 1;
             for (int t = 0; t < texts.length; t++) {
@@ -299,6 +301,16 @@ public final class EdgesOfReadingTest {
                 c.due("of another LAW are HELD", x.law(0, 4), 0);
                 x.days(1);
             }
+        });
+        EDGES.edge(7, "3: BITS that lie (bits)", c -> {
+            ConfettiMinutes x = Edges.calm("4;4;4;1", "", "c0c2t00t20");
+            int[] lie = {15, 0, 15, 0};
+            for (int law = 0; law < 4; law++) {
+                c.due("BITS of LAW " + law + " that lie", x.law(law, 3), lie[law]);
+            }
+            Check.text(x, "c1c3t10t30").wedding();
+            c.due("BITS of LAW 1 that lie", x.law(1, 3), 15);
+            c.due("BITS of LAW 3 that lie", x.law(3, 3), 1);
         });
         EDGES.edge(7, "5: who has a RIGHT by it (5: nobody)", c -> {
             ConfettiMinutes x = Edges.calm("2;1", "1;1;1;1;0", "c0t00n1");
