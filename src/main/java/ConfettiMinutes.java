@@ -252,15 +252,15 @@ public final class ConfettiMinutes {
         dreamOf(blowing, n);
         int fullest = 0;
         for (int street = 1; street < STREETS; street++) {
-            if (dream.lyingIn(street) > dream.lyingIn(fullest)) {
+            if (dream.bitsAt(street) > dream.bitsAt(fullest)) {
                 fullest = street;
             }
         }
         told.tell(fullest);
         for (int street = 0; street < STREETS; street++) {
-            told.add(dream.lyingIn(street));
+            told.add(dream.bitsAt(street));
         }
-        return dream.lyingIn(fullest);
+        return dream.bitsAt(fullest);
     }
 
     // ---- so that one has a right
@@ -1288,7 +1288,7 @@ public final class ConfettiMinutes {
             return n;
         }
 
-        int lyingIn(int where) {
+        int bitsAt(int where) {
             int n = 0;
             for (int slot = 0; slot < SLOTS; slot++) {
                 n += place[slot] == where ? 1 : 0;
@@ -1313,7 +1313,7 @@ public final class ConfettiMinutes {
         }
 
         int heldBy(int one) {
-            return lyingIn(HELD + one);
+            return bitsAt(HELD + one);
         }
 
         int heldByOf(int one, int law) {
@@ -1387,8 +1387,13 @@ public final class ConfettiMinutes {
             return bitsOf(law);
         }
 
+        /** What fling() does to a LAW that may be FLUNG, and aims() to one that need not be CARRIED for it. */
         void scatter(int law, int where) {
             flung |= 1 << law;
+            layAll(law, where);
+        }
+
+        private void layAll(int law, int where) {
             for (int b = 0; b < bitsOf(law); b++) {
                 lay(slotOf(law, b), where);
             }
@@ -1402,7 +1407,7 @@ public final class ConfettiMinutes {
                 return -2;
             }
             int held = heldOf(law);
-            scatter(law, AWAY);
+            layAll(law, AWAY);
             flung &= ~(1 << law);
             carried &= ~(1 << law);
             return held;
@@ -1712,15 +1717,15 @@ public final class ConfettiMinutes {
 
         /** Who HOLDS the most, of like ones the first, but for those placed. */
         int richest(Town town, int placed) {
-            int best = 0;
+            int first = 0;
             int most = -1;
             for (int one = 0; one < town.peopleCount; one++) {
                 if ((placed >> one & 1) == 0 && town.heldBy(one) > most) {
                     most = town.heldBy(one);
-                    best = one;
+                    first = one;
                 }
             }
-            return best;
+            return first;
         }
 
         void weigh(Town town) {

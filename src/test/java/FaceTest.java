@@ -1,12 +1,19 @@
 import java.io.IOException;
+import java.lang.reflect.Array;
 import java.lang.reflect.Constructor;
 import java.lang.reflect.Field;
 import java.lang.reflect.Method;
 import java.lang.reflect.Modifier;
 import java.nio.file.Files;
 import java.nio.file.Path;
+import java.util.ArrayDeque;
+import java.util.ArrayList;
 import java.util.Arrays;
+import java.util.Collections;
+import java.util.Deque;
 import java.util.HashSet;
+import java.util.IdentityHashMap;
+import java.util.List;
 import java.util.Set;
 import java.util.TreeSet;
 import java.util.regex.Matcher;
@@ -33,6 +40,7 @@ public final class FaceTest {
         methods();
         fieldsAndConstructor();
         nestedClasses();
+        room();
         text(Files.readString(Path.of("src/main/java/ConfettiMinutes.java")));
         CHECK.end();
     }
@@ -96,6 +104,58 @@ public final class FaceTest {
             CHECK.due(c.getSimpleName() + " is static", Modifier.isStatic(c.getModifiers()), true);
             CHECK.due(c.getSimpleName() + " is private", Modifier.isPrivate(c.getModifiers()), true);
         }
+    }
+
+    /** All calls of one run live in one room, so that an object is to be small, however much has been done with it. */
+    private static void room() {
+        long[] fresh = roomOf(new ConfettiMinutes());
+        long[] lived = roomOf(Twins.lived());
+        CHECK.due("objects and arrays of a new object", fresh[0] <= 200, true);
+        CHECK.due("fields and elements of a new object", fresh[1] <= 2000, true);
+        CHECK.due("objects and arrays behind many calls", lived[0], fresh[0]);
+        CHECK.due("fields and elements behind many calls", lived[1], fresh[1]);
+    }
+
+    /** How many objects and arrays can be reached, and how many fields and elements these have. */
+    private static long[] roomOf(Object root) {
+        Set<Object> met = Collections.newSetFromMap(new IdentityHashMap<>());
+        Deque<Object> waiting = new ArrayDeque<>();
+        waiting.add(root);
+        long parts = 0;
+        while (!waiting.isEmpty()) {
+            Object next = waiting.pop();
+            if (met.add(next)) {
+                List<Object> inside = partsOf(next);
+                parts += inside.size();
+                inside.stream().filter(FaceTest::isOwn).forEach(waiting::add);
+            }
+        }
+        return new long[] {met.size(), parts};
+    }
+
+    private static boolean isOwn(Object part) {
+        return part != null && (part.getClass().isArray() || part.getClass().getName().startsWith("ConfettiMinutes"));
+    }
+
+    private static List<Object> partsOf(Object whole) {
+        List<Object> parts = new ArrayList<>();
+        if (whole.getClass().isArray()) {
+            for (int i = 0; i < Array.getLength(whole); i++) {
+                parts.add(Array.get(whole, i));
+            }
+            return parts;
+        }
+        try {
+            for (Field f : whole.getClass().getDeclaredFields()) {
+                if (!Modifier.isStatic(f.getModifiers())) {
+                    f.setAccessible(true);
+                    parts.add(f.get(whole));
+                }
+            }
+        } catch (IllegalAccessException e) {
+            throw new IllegalStateException(e);
+        }
+        return parts;
     }
 
     private static void text(String source) {
